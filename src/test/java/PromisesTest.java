@@ -673,7 +673,7 @@ public final class PromisesTest {
     }
 
     private static void promise25() {
-        // Dry he gains 3, in rain he loses 1: what the other takes is 1 then.
+        // He gains 3 in a dry year and 1 in a wet one.
         FacingFields x = of("c1 1;m2 2 3 2;m1 0 0 40;");
         due.is("25 dry", x.has(0, 2), 2 + 4);
         fraction("25 no years, so much", x, new int[] {3, 0, 0, 0}, 1, 1);
@@ -707,7 +707,7 @@ public final class PromisesTest {
     }
 
     private static void oddsAtTheBound() {
-        // Dry 360 more, in rain 99 less: behind the bound, rain that comes last takes from it.
+        // He gains 81 in a dry year and nothing in a wet one.
         FacingFields x = of("c1 9;m1 9 99 11;m1 0 0 40;");
         due.is("25 dry", x.has(0, 2), 99 + 81);
         for (int i = 0; i < 124; i++) {
@@ -727,9 +727,9 @@ public final class PromisesTest {
         y.ropes(0, 0);
         due.is("25 in rain without", y.has(0, 2), 0);
         due.is("25 at the bound", y.has(0, 3), 9999);
-        // Dry -18, rain -99 now; with one leg more of the mule: dry +63, rain -99.
+        // With the mule he gains 63 in a dry year and loses 99 in a wet one.
         y.mules(0, 1);
-        fraction("25 rain, then dry: less; dry, then rain: less still", y, new int[] {5, 2, 0, 9963}, 1, 2);
+        fraction("25 both dry, or rain, then dry", y, new int[] {5, 2, 0, 9963}, 1, 2);
         fraction("25 only both dry", y, new int[] {5, 2, 0, 9964}, 1, 4);
         fraction("25 dry, then rain is 9900", y, new int[] {5, 2, 0, 9900}, 3, 4);
     }
