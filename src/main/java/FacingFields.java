@@ -879,22 +879,14 @@ public final class FacingFields {
                 if (token == ENDED) {
                     break;
                 }
-                if (!readItem(token, into)) {
+                boolean isCrop = token == CROP && into.men == 0 && into.crops < CROPS_MOST;
+                boolean isMan = token == MAN && into.crops > 0 && into.men < MEN_MOST;
+                if (!(isCrop && readCrop(into) || isMan && readMan(into))) {
                     return FAULTY - start;
                 }
                 items++;
             }
             return items;
-        }
-
-        private boolean readItem(int token, Told into) {
-            if (token == CROP) {
-                return into.men == 0 && into.crops < CROPS_MOST && readCrop(into);
-            }
-            if (token == MAN) {
-                return into.crops > 0 && into.men < MEN_MOST && readMan(into);
-            }
-            return false;
         }
 
         private boolean readCrop(Told into) {

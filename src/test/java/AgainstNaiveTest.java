@@ -4,7 +4,9 @@ import java.util.Random;
 public final class AgainstNaiveTest {
     private static final Due due = new Due();
     private static final int RUNS = 1200;
-    private static final int CALLS = 512;
+    /** One step makes 30 calls at most, or up to 210 where a text is told: none goes beyond 512. */
+    private static final int CALLS = 480;
+    private static final int CALLS_AHEAD_OF_TEXT = 300;
 
     private final Random random;
     private final int run;
@@ -26,7 +28,7 @@ public final class AgainstNaiveTest {
 
     private void go() {
         while (calls < CALLS && !due.anyWrong()) {
-            if (calls == 0 || random.nextInt(150) == 0) {
+            if (calls == 0 || calls < CALLS_AHEAD_OF_TEXT && random.nextInt(100) == 0) {
                 tell(random.nextInt(6) == 0 ? spoilt(text()) : text());
             } else {
                 call();
@@ -89,12 +91,13 @@ public final class AgainstNaiveTest {
 
     private void same(String call, long got, long want) {
         calls++;
+        due.holds("run " + run + " stays within 512 calls", calls <= 512);
         due.is("run " + run + ", call " + calls + ": " + call, got, want);
     }
 
     /** A man who is there, mostly. */
     private int someone() {
-        int men = x.count(1);
+        int men = y.count(1);
         return random.nextInt(40) == 0 ? upTo(-2, 7) : men == 0 ? 0 : random.nextInt(men);
     }
 
@@ -111,12 +114,12 @@ public final class AgainstNaiveTest {
     }
 
     private int crop() {
-        return from(0, Math.max(0, x.count(0) - 1));
+        return from(0, Math.max(0, y.count(0) - 1));
     }
 
     /** What is stored, near to what is or may be, or anything. */
     private int sum(int m) {
-        int stored = x.has(m, 3);
+        int stored = y.has(m, 3);
         boolean known = stored != FacingFields.NO;
         int way = random.nextInt(4);
         if (known && way < 2) {
@@ -188,7 +191,7 @@ public final class AgainstNaiveTest {
     }
 
     private void tellStubble(int m) {
-        int taken = x.has(m, 0);
+        int taken = y.has(m, 0);
         int n = taken >= 0 && random.nextInt(3) > 0 ? taken : from(0, 180);
         same("stubble " + m + " " + n, x.stubble(m, n), y.stubble(m, n));
         same("cut " + m, x.cut(m), y.cut(m));
