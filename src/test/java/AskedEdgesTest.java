@@ -73,6 +73,10 @@ public final class AskedEdgesTest {
         run.is("best 0 4 0", 0).is("best 0 4 1", 5).is("best 0 5 0", NONE).is("rains 1", 0).is("best 0 1 0", NONE);
         run.is("best 0 0 1", 9).is("ropes 1 1", 0).is("best 0 8 0", 0).is("best 0 9 0", NONE).is("mules 1 1", 0);
         run.is("best 0 9 0", 0).is("best 0 9 1", 0).is("best 0 10 0", NONE);
+        // The other one comes for the light crop alone, whichever is sown now.
+        Run light = Run.of(due, "17 by the CROP that he would sow", "c1 1;c5 1;m1 0 0 9 9;m4 2 0 0 0;");
+        light.is("best 0 1 0", 0).is("best 0 1 1", 1).is("best 0 0 0", 1).is("best 0 0 1", 9).is("sows 0 1", 0);
+        light.is("best 0 8 0", 0).is("best 0 9 0", NONE).is("best 0 0 0", 1);
     }
 
     private static void restOfOneCrop() {
@@ -87,6 +91,11 @@ public final class AskedEdgesTest {
         order.is("rest 0 0", 2).is("rest 0 1", 20).is("rest 1 0", 2).is("rest 1 1", 2);
         Run all = Run.of(due, "18 nine at most", "c1 1;c1 1;c1 1;m1 0 0 0 0 0;m1 0 0 0 0 0;");
         all.is("rest 0 0", 9).is("rest 0 1", 0);
+        Run first = Run.of(due, "18 neither HAS more by sowing otherwise alone", "c1 1;c1 1;m1 0 0 2 1;m1 0 0 2 1;");
+        first.is("rest 0 0", 1).is("rest 0 1", 0);
+        // Of the light crop he keeps 1 in a dry year and 5 in rain, of the heavy one 3.
+        Run now = Run.of(due, "18 as things are NOW", "c1 1;c5 1;m1 0 0 9 3;m4 2 0 0 0;");
+        now.is("rest 0 0", 2).is("rest 0 1", 10).is("rest 1 1", 1).is("rains 1", 0).is("rest 0 1", 0).is("rest 0 0", 2);
     }
 
     private static void restOfOneAlone() {
@@ -100,6 +109,10 @@ public final class AskedEdgesTest {
         run.each("hungry #", 0, 1, 0, BAD).is("now 3", 2).is("hungry -1", BAD);
         Run alone = Run.of(due, "19 one alone", "c1 1;c1 2;m1 0 21 9 10;");
         alone.is("hungry 0", 1).is("now 3", 1);
+        Run more = Run.of(due, "19 who HAS more than he NEEDS", "c1 9;c1 1;m1 0 45 5 40;m1 0 44 5 40;m1 0 44 5 40;");
+        more.each("hungry #", 0, 0, 0, BAD).is("now 3", 0);
+        Run fed = Run.of(due, "19 fed by what MAN 0 may sow", "c1 1;c1 9;m1 0 0 5 5;m1 5 45 0 0;");
+        fed.is("has 1 2", 5).is("hungry 1", 0).is("now 3", 0);
         Run all = Run.of(due, "19 MEN (bits)", "c1 1;" + "m1 0 1 0;".repeat(6));
         all.is("now 3", 63).each("hungry #", 1, 1, 1, 1, 1, 1, BAD);
         Run none = Run.of(due, "19 who NEEDS nothing", "c1 1;" + "m1 0 0 0;".repeat(6));
@@ -115,6 +128,9 @@ public final class AskedEdgesTest {
         one.is("faces -1", -99).is("faces 0", NONE).is("faces 1", NO).is("faces -2", NO);
         Run two = Run.of(due, "20 two and two", "c1 1;m1 1 1 9;m1 1 9 3;");
         two.is("faces -1", -6).each("faces #", 1, 0, NO);
+        // What grows at man 3 would feed men 0 and 1, but only one of them can face him.
+        Run torn = Run.of(due, "20 two and two", "c1 1;m9 9 5 0;m9 9 5 0;m1 0 0 0;m1 0 0 20;");
+        torn.is("faces -1", -5).each("faces #", 1, 0, 3, 2, NO);
     }
 
     private static void facesOfAnOddNumber() {
@@ -158,6 +174,8 @@ public final class AskedEdgesTest {
             run.is("ropes 0 3", 0).is("ropes 1 3", 0).is("needed -1", row[1]).is("needed 0", row[1]).is("needed 1", none);
             run.is("man 0 5", 3).is("man 1 5", 3);
         }
+        Run second = Run.of(due, "21 the second of two", "c4 1;m1 0 0 40;m1 1 2 0;");
+        second.is("needed -1", 3).each("needed #", 0, 3, BAD);
         // What the other one brings home by ropes of his own is what he keeps less.
         Run lost = Run.of(due, "21 by which all HAVE what they NEED", "c4 1;m1 1 1 0;m1 0 39 40;");
         lost.is("needed -1", 1).is("needed 0", 1).is("needed 1", 0);
@@ -176,6 +194,8 @@ public final class AskedEdgesTest {
     private static void neededOfOneAlone() {
         Run fed = Run.of(due, "21 one alone", "c4 1;m1 1 7 7;");
         fed.is("needed -1", 0).is("needed 0", 0).is("ropes 0 3", 0).is("needed -1", 0).is("needed 0", 0);
+        Run more = Run.of(due, "21 one alone who HAS more", "c4 1;m1 1 6 7;");
+        more.is("needed -1", 0).is("needed 0", 0);
         Run unfed = Run.of(due, "21 one alone, whom nobody can feed", "c4 1;m1 1 8 7;");
         unfed.is("needed -1", NONE).is("needed 0", NONE).is("needed 1", BAD);
         Run nobody = Run.of(due, "21 nobody there", "c4 1;");
@@ -313,6 +333,9 @@ public final class AskedEdgesTest {
         run.is("sows 1 1", 0).is("sows 2 1", 0).is("poor", NONE).is("year", 4).each("has # 3", 0, 12, 35, 0);
         run.is("sows 2 0", 1).is("poor", 6).is("sows 1 0", 1).is("poor", 3).is("sows 2 1", 0).is("poor", 3);
         run.is("year", 3).is("year", 3).is("has 1 3", 0).is("poor", 1).is("year", 3).is("has 1 3", -6).is("poor", 0);
+        // 44 stored, and 1 less in a year; 43 stored, and 2 less.
+        Run later = Run.of(due, "27 the later one is the sooner", "c1 1;c1 9;m1 0 1 0 5;m1 0 2 0 5;");
+        later.is("sows 0 1", 0).is("sows 1 1", 0).is("year", 2).is("sows 0 0", 1).is("poor", 45).is("sows 1 0", 1).is("poor", 22);
         Run all = Run.of(due, "27 of six the last", "c1 1;" + "m1 0 0 0;".repeat(5) + "m1 0 1 0;");
         all.is("poor", 1).is("year", 5).is("poor", 0);
     }
@@ -323,6 +346,9 @@ public final class AskedEdgesTest {
         Run run = Run.of(due, "28 in least terms", "c1 1;m1 0 0 6;m1 0 0 4;m1 0 0 0;m1 0 0 2;m1 0 0 5;m1 0 0 7;");
         run.is("now 4", 24).each("share # 0", 1, 1, 0, 1, 5, 7, BAD).each("share # 1", 4, 6, 1, 12, 24, 24, BAD);
         run.is("share 0 2", BAD).is("share 0 -1", BAD).is("share -1 0", BAD);
+        Run taken = Run.of(due, "28 what he HAS by that of all together", "c1 1;m3 2 0 1;m1 1 0 9;");
+        taken.each("share # 0", 3, 2, BAD).each("share # 1", 5, 5, BAD).is("mules 0 1", 0);
+        taken.each("share # 0", 9, 1, BAD).each("share # 1", 10, 10, BAD);
         Run one = Run.of(due, "28 who has all", "c1 9;m1 0 0 40;m1 0 0 0;");
         one.each("share # 0", 1, 0, BAD).each("share # 1", 1, 1, BAD);
     }
